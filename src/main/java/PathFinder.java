@@ -166,11 +166,12 @@ public final class PathFinder {
     }
 
     private static boolean holds(long set, int place) {
-        return (set & bit(place)) != 0L;
+        return (set >>> place & 1L) != 0L;
     }
 
     private static long sumOf(long a, long b) {
-        return Math.min(a + b, MOST_TIMES);
+        long sum = a + b;
+        return sum < MOST_TIMES ? sum : MOST_TIMES;
     }
 
     /** The edges: for each label and each point the set of the points that they lead to. */
@@ -340,19 +341,21 @@ public final class PathFinder {
                     add(rows, first);
                     add(rows, second);
                     break;
-                default:
+                case MAYBE:
                     add(rows, first);
-                    addRepeats(rows, kind);
+                    addStaying(rows);
                     break;
-            }
-        }
-
-        private static void addRepeats(long[] rows, int kind) {
-            if (kind == ANY || kind == SOME) {
-                close(rows);
-            }
-            if (kind == ANY || kind == MAYBE) {
-                addStaying(rows);
+                case ANY:
+                    add(rows, first);
+                    close(rows);
+                    addStaying(rows);
+                    break;
+                case SOME:
+                    add(rows, first);
+                    close(rows);
+                    break;
+                default:
+                    break;
             }
         }
 
