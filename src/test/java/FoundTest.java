@@ -212,9 +212,9 @@ public final class FoundTest {
     }
 
     private static void timesMultiply() {
-        PathFinder finder = eightfold();
         long want = 1;
         for (int n = 1; n <= 16; n++) {
+            PathFinder finder = eightfold();
             want *= 8;
             Due.path(finder, steps(n));
             Due.due(n + " steps: times(0, " + n % 2 + ")", finder.times(0, n % 2), want);

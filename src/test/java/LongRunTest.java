@@ -109,26 +109,33 @@ public final class LongRunTest {
                     }
                     break;
                 case 10:
-                    Due.holds("times() in its bounds", finder.times(x, y) >= -2 && finder.times(x, y) <= MOST);
+                    within("times()", finder.times(x, y), MOST);
                     break;
                 case 11:
-                    Due.holds("ends() in its bounds", finder.ends(x) >= -2 && finder.ends(x) <= 64);
+                    within("ends()", finder.ends(x), 64);
                     break;
                 case 12:
-                    finder.reached(x);
-                    finder.reaching(y);
+                    if (random.nextBoolean()) {
+                        finder.reached(x);
+                    } else {
+                        finder.reaching(y);
+                    }
                     break;
                 case 13:
-                    Due.holds("all() in its bounds", finder.all(x) >= -2 && finder.all(x) <= MOST);
+                    within("all()", finder.all(x), MOST);
                     break;
                 case 14:
-                    Due.holds("pairs() in its bounds", finder.pairs() >= -2 && finder.pairs() <= 4096);
+                    within("pairs()", finder.pairs(), 4096);
                     break;
                 default:
                     Due.due("edges()", finder.edges(), edges);
                     break;
             }
         }
+    }
+
+    private static void within(String call, long got, long most) {
+        Due.holds(call + " in its bounds: " + got, got >= PathFinder.NO && got <= most);
     }
 
     private static int drawInt(Random random, int bound) {

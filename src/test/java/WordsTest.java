@@ -175,14 +175,13 @@ public final class WordsTest {
 
     private static void againstTheMeaning() {
         Random random = new Random(7);
-        PathFinder finder = new PathFinder();
         for (int run = 0; run < 20000; run++) {
             int[] words = new int[random.nextInt(61)];
             int bound = random.nextInt(4) == 0 ? 10 : 8;
             for (int n = 0; n < words.length; n++) {
                 words[n] = random.nextInt(bound) - (bound == 10 ? 1 : 0);
             }
-            look(finder, Meaning.look(words), words);
+            look(Meaning.look(words), words);
         }
     }
 
@@ -193,10 +192,7 @@ public final class WordsTest {
     }
 
     private static void look(int want, int... words) {
-        look(new PathFinder(), want, words);
-    }
-
-    private static void look(PathFinder finder, int want, int... words) {
+        PathFinder finder = new PathFinder();
         Due.path(finder, words);
         Due.due("look() of " + Arrays.toString(words), finder.look(), want);
         if (want != 0) {
