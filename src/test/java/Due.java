@@ -2,15 +2,23 @@
 final class Due {
     private static int asked = 0;
     private static int wrong = 0;
+    private static int sentences = 0;
+    private static String sentence = "";
 
     private Due() {
+    }
+
+    /** What follows tests this sentence of the document; wrong answers are told with it. */
+    static void sentence(String where, String words) {
+        sentences++;
+        sentence = where + ", \"" + words + "\": ";
     }
 
     static void due(String call, long got, long want) {
         asked++;
         if (got != want) {
             wrong++;
-            System.out.println(call + " answered " + got + ", due is " + want);
+            System.out.println(sentence + call + " answered " + got + ", due is " + want);
         }
     }
 
@@ -18,7 +26,7 @@ final class Due {
         asked++;
         if (!really) {
             wrong++;
-            System.out.println("does not hold: " + what);
+            System.out.println(sentence + "does not hold: " + what);
         }
     }
 
@@ -31,7 +39,8 @@ final class Due {
     }
 
     static void end() {
-        System.out.println(wrong == 0 ? asked + " answers are as due" : wrong + " of " + asked + " answers are not as due");
+        String tested = sentences == 0 ? "" : sentences + " sentences, ";
+        System.out.println(tested + (wrong == 0 ? asked + " answers are as due" : wrong + " of " + asked + " answers are not as due"));
         System.exit(wrong == 0 ? 0 : 1);
     }
 }
