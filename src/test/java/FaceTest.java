@@ -1,3 +1,4 @@
+import java.io.IOException;
 import java.lang.reflect.Constructor;
 import java.lang.reflect.Field;
 import java.lang.reflect.Method;
@@ -12,7 +13,7 @@ public final class FaceTest {
         "int look()", "long times(int,int)", "int ends(int)", "long reached(int)", "long all(int)",
         "long reaching(int)", "int pairs()");
 
-    public static void main(String[] args) {
+    public static void main(String[] args) throws IOException {
         Due.due("BAD", PathFinder.BAD, -1);
         Due.due("NO", PathFinder.NO, -2);
         Due.due("FULL", PathFinder.FULL, -3);
@@ -26,7 +27,20 @@ public final class FaceTest {
             Due.holds(inside + " is static and not public",
                 Modifier.isStatic(seen) && !Modifier.isPublic(seen) && !Modifier.isProtected(seen));
         }
+        asInTheDocument();
         Due.end();
+    }
+
+    /** The document's own lines, parameters without their names, are what is asked for here. */
+    private static void asInTheDocument() throws IOException {
+        Set<String> due = new TreeSet<>(Set.of("final class PathFinder {", "PathFinder()", "}",
+            "static final int BAD = -1", "static final int NO = -2", "static final int FULL = -3"));
+        due.addAll(METHODS);
+        Set<String> lines = new TreeSet<>();
+        for (String line : Document.read().face()) {
+            lines.add(line.replaceFirst("^public ", "").replaceFirst(";$", "").replaceAll("int \\w+(?=[,)])", "int").replace(", ", ","));
+        }
+        Due.holds("the document's face " + lines + " is " + due, lines.equals(due));
     }
 
     private static void fields() {

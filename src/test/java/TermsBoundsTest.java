@@ -403,7 +403,7 @@ public final class TermsBoundsTest {
     }
 
     private static void mostDeep() {
-        Due.sentence("Terms", "at most 12 deep");
+        Due.sentence("Terms", "and at most 12 deep.");
         Run run = new Run();
         run.edge(0, 0, 0);
         for (int word : new int[] {1, 4, 5, 6}) {

@@ -160,7 +160,7 @@ public final class WordsBoundsTest {
     }
 
     private static void noSuchWordAnywhere() {
-        Due.sentence("Promise 7", "-100 less the place of the first word that can't stand there");
+        Due.sentence("Promise 7", "or -100 less the place of the first word that can't stand there");
         int[] words = Words.longest();
         for (int place = 0; place < 60; place++) {
             look(-100 - place, Words.changed(words, place, 8));
@@ -194,7 +194,7 @@ public final class WordsBoundsTest {
     }
 
     private static void partTooDeep() {
-        Due.sentence("Promise 7", "too deep");
+        Due.sentence("Promise 7", "a part too many or too deep");
         for (int word : new int[] {1, 4, 5, 6}) {
             look(0, Words.chain(word, 11, Words.edge(7)));
             look(-112, Words.chain(word, 12, Words.edge(7)));
